@@ -40,6 +40,8 @@ public final class SkipStones {
     private int lastFault = 0;
 
     public SkipStones() {
+        // A text that has told nothing yet has all numbers as at first.
+        water.takeLaw(text);
         for (int k = 0; k < sheets.length; k++) {
             sheets[k] = new Sheet();
         }
@@ -88,7 +90,15 @@ public final class SkipStones {
     }
 
     public int rule(int what) {
-        return within(what, 0, LAWS - 1) ? water.number(what) : UNKNOWN;
+        switch (what) {
+            case LIFT: return water.lift;
+            case RUB: return water.rub;
+            case UP: return water.up;
+            case NEEDED: return water.needed;
+            case NEAR: return water.near;
+            case HARD: return water.hard;
+            default: return UNKNOWN;
+        }
     }
 
     public int waves(int sheet, int lane, int i, int n) {
@@ -520,7 +530,7 @@ public final class SkipStones {
     // ---- throws and grids
 
     private static boolean sinks(Stone stone, Water water, int speed, int fall, int tilt) {
-        int lift = water.number(LIFT);
+        int lift = water.lift;
         if (tilt < 1 || tilt > TILT_MOST || lift < 1) {
             return true;
         }
@@ -706,19 +716,23 @@ public final class SkipStones {
     }
 
     private static final class Water {
-        final int[] numbers = AT_FIRST.clone();
+        int lift = 0;
+        int rub = 0;
+        int up = 0;
+        int needed = 0;
+        int near = 0;
+        int hard = 0;
         final int[] waveRow = new int[ROW_MOST];
         int waveCount = 1;
         int shifted = 0;
 
-        int number(int what) {
-            return what < 0 || what >= numbers.length ? 0 : numbers[what];
-        }
-
         void takeLaw(LawText told) {
-            for (int letter = 0; letter < numbers.length && letter < AT_FIRST.length; letter++) {
-                numbers[letter] = told.isTold(letter) ? told.number(letter) : AT_FIRST[letter];
-            }
+            lift = told.number(LIFT);
+            rub = told.number(RUB);
+            up = told.number(UP);
+            needed = told.number(NEEDED);
+            near = told.number(NEAR);
+            hard = told.number(HARD);
         }
 
         int waveAt(int x, int by) {
@@ -732,22 +746,19 @@ public final class SkipStones {
 
     /** Reads the text of a law; the water takes it only when all of it stands. */
     private static final class LawText {
-        private static final int NO_FAULT = -1, UNTOLD = -1, NOTHING = -1;
+        private static final int NO_FAULT = -1, NOTHING = -1;
         private static final int BETWEEN = 59, DIGIT_0 = 48, DIGIT_9 = 57;
 
-        private final int[] numbers = new int[LAWS];
+        private final int[] numbers = AT_FIRST.clone();
+        private final int[] timesTold = new int[LAWS];
         private Sheet from = null;
         private int start = 0;
         private int length = 0;
         private int at = 0;
         int items = 0;
 
-        boolean isTold(int letter) {
-            return number(letter) != UNTOLD;
-        }
-
         int number(int letter) {
-            return letter < 0 || letter >= numbers.length ? UNTOLD : numbers[letter];
+            return letter < 0 || letter >= numbers.length ? 0 : numbers[letter];
         }
 
         /** The place of the first fault of the n codes from i on, or NO_FAULT. */
@@ -757,7 +768,8 @@ public final class SkipStones {
             length = n;
             at = 0;
             items = 0;
-            Arrays.fill(numbers, UNTOLD);
+            System.arraycopy(AT_FIRST, 0, numbers, 0, LAWS);
+            Arrays.fill(timesTold, 0);
             for (int k = 0; k < LAWS; k++) {
                 if (!readsItem()) {
                     return at;
@@ -777,7 +789,7 @@ public final class SkipStones {
         /** Whether an item stands here; if so, at is behind it, else at its fault. */
         private boolean readsItem() {
             int letter = letterAt(at);
-            if (letter == NOTHING || isTold(letter)) {
+            if (!isUntold(letter)) {
                 return false;
             }
             at++;
@@ -791,8 +803,13 @@ public final class SkipStones {
                 return false;
             }
             numbers[letter] = told;
+            timesTold[letter]++;
             at += second == NOTHING ? 1 : 2;
             return true;
+        }
+
+        private boolean isUntold(int letter) {
+            return letter >= 0 && letter < timesTold.length && timesTold[letter] == 0;
         }
 
         private boolean isLawful(int letter, int told) {
@@ -864,14 +881,14 @@ public final class SkipStones {
                 keep(SUNK, tilt, 0);
                 return false;
             }
-            int drag = speed * (water.number(RUB) + tilt + stone.rough);
-            if (tilt > water.number(HARD)) {
+            int drag = speed * (water.rub + tilt + stone.rough);
+            if (tilt > water.hard) {
                 slow(STEEP, tilt, drag / 50 + 1, fall);
             } else {
-                int lower = Math.max(1, fall * water.number(UP) / 100);
-                slow(lower <= water.number(NEAR) ? SKATING : CLEAN, tilt, drag / 100 + 1, lower);
+                int lower = Math.max(1, fall * water.up / 100);
+                slow(lower <= water.near ? SKATING : CLEAN, tilt, drag / 100 + 1, lower);
             }
-            wobble(water.number(NEEDED));
+            wobble(water.needed);
             if (speed == 0) {
                 return false;
             }

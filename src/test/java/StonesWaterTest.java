@@ -112,7 +112,6 @@ public final class StonesWaterTest {
     }
 
     private static void lawFirstFaults() {
-        SkipStones x = new SkipStones();
         String[] texts = {"", "x", "5", ";", "l", "lx", "l;", "l1x", "l1", "l12", "l123", "l12;", "l1;", "l1;;", "l1;r",
             "l1;r2;l3", "l1;r2;r3", "l1r2", "l1;x", "l0", "l0x", "l00", "r51", "r51;l1", "r5;k51;l1", "u100", "h46",
             "h45", "k0;r0;s0", "l1;r1;u1;s1;k1;h1", "l1;r1;u1;s1;k1;h1;", "l1;r1;u1;s1;k1;h1;l1", "L1", " l1", "l1 ",
@@ -123,23 +122,23 @@ public final class StonesWaterTest {
             -101, -116, -117, -101, -101, -102};
         due.is("4 as many answers as texts", want.length, texts.length);
         for (int t = 0; t < texts.length; t++) {
-            due.is("4 law " + texts[t], Due.law(x, texts[t]), want[t]);
+            due.is("4 law " + texts[t], Due.law(new SkipStones(), texts[t]), want[t]);
         }
         StringBuilder tooLong = new StringBuilder("l1;r1;u1;s1;k1;h1");
         while (tooLong.length() < 60) {
             tooLong.append(';');
         }
-        due.is("4 a whole sheet", Due.law(x, tooLong.toString()), -117);
+        due.is("4 a whole sheet", Due.law(new SkipStones(), tooLong.toString()), -117);
     }
 
     private static void lawNumberEdges() {
-        SkipStones x = new SkipStones();
         String letters = "lruskh";
         int[] least = {1, 0, 1, 0, 0, 1};
         int[] greatest = {99, 50, 99, 99, 50, 45};
         for (int what = 0; what < 6; what++) {
             char letter = letters.charAt(what);
             for (int number = 0; number <= 99; number++) {
+                SkipStones x = new SkipStones();
                 boolean stands = number >= least[what] && number <= greatest[what];
                 int before = x.rule(what);
                 due.is("4 " + letter + number, Due.law(x, "" + letter + number), stands ? 1 : -101);
