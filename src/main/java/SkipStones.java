@@ -881,13 +881,13 @@ public final class SkipStones {
                 keep(SUNK, tilt, 0);
                 return false;
             }
+            boolean steep = tilt > water.hard;
             int drag = speed * (water.rub + tilt + stone.rough);
-            if (tilt > water.hard) {
-                slow(STEEP, tilt, drag / 50 + 1, fall);
-            } else {
-                int lower = Math.max(1, fall * water.up / 100);
-                slow(lower <= water.near ? SKATING : CLEAN, tilt, drag / 100 + 1, lower);
-            }
+            int taken = (steep ? drag / 50 : drag / 100) + 1;
+            int lower = steep ? fall : Math.max(1, fall * water.up / 100);
+            keep(steep ? STEEP : lower <= water.near ? SKATING : CLEAN, tilt, taken);
+            speed = Math.max(0, speed - taken);
+            fall = lower;
             wobble(water.needed);
             if (speed == 0) {
                 return false;
@@ -895,12 +895,6 @@ public final class SkipStones {
             x += speed * fall / 20;
             beat += fall / 5;
             return true;
-        }
-
-        private void slow(int kind, int tilt, int taken, int lower) {
-            keep(kind, tilt, taken);
-            speed = Math.max(0, speed - taken);
-            fall = lower;
         }
 
         private void wobble(int needed) {

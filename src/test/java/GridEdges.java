@@ -232,6 +232,8 @@ final class GridEdges {
             narrow(once(), 50, 1, 9, 3, 1, 0);
             // At its end: without 12 none of 2 is left, but without 11, the first, it would be 1 of 2, as without SLANT 45.
             narrow(x, 11, 1, 44, 1, 1, 1);
+            // SPEEDS less 3 of 6, SLANTS less 4 of 4.
+            narrow(x, 12, 3, 44, 1, 1, 1);
         });
         e.of(TERMS, "(0, if these ODDS are alike;", () -> {
             narrow(once(), 60, 4, 20, 4, 1, 0);

@@ -1,6 +1,8 @@
 import java.nio.file.Files;
 import java.nio.file.Path;
+import java.util.Map;
 import java.util.Set;
+import java.util.TreeMap;
 import java.util.TreeSet;
 import java.util.regex.Matcher;
 import java.util.regex.Pattern;
@@ -22,6 +24,8 @@ public final class LanguageTest {
     // Rule 4: and of their members these alone.
     private static final Set<String> MEMBERS = Set.of("Arrays.fill", "Math.max", "Long.MIN_VALUE", "System.arraycopy");
 
+    private static final String HEAD = "( {4}| {8})\\w.*\\(.*\\) \\{";
+
     public static void main(String[] args) throws Exception {
         String source = Files.readString(Path.of("src/main/java/SkipStones.java"));
         String code = source.replaceAll("(?s)/\\*.*?\\*/", "").replaceAll("//[^\n]*", "");
@@ -34,6 +38,7 @@ public final class LanguageTest {
         classes(code);
         members(code);
         methodLengths(code);
+        callDepths(code);
         due.end();
     }
 
@@ -74,15 +79,54 @@ public final class LanguageTest {
     private static void methodLengths(String code) {
         String[] lines = code.split("\n");
         for (int i = 0; i < lines.length; i++) {
-            if (!lines[i].matches("( {4}| {8})\\w.*\\(.*\\) \\{")) {
+            if (!lines[i].matches(HEAD)) {
                 continue;
             }
-            String end = lines[i].replaceAll("\\S.*", "") + "}";
-            int last = i;
-            while (last < lines.length && !lines[last].equals(end)) {
-                last++;
-            }
+            int last = lastLine(lines, i);
             due.is("lines of" + lines[i] + " " + (last - i + 1), last - i + 1 <= 60 ? 1 : 0, 1);
         }
+    }
+
+    private static int lastLine(String[] lines, int head) {
+        String end = lines[head].replaceAll("\\S.*", "") + "}";
+        int last = head;
+        while (last < lines.length && !lines[last].equals(end)) {
+            last++;
+        }
+        return last;
+    }
+
+    /** Rule 11: calls go at most eight deep; methods of one name are looked at as if they were one. */
+    private static void callDepths(String code) {
+        String[] lines = code.split("\n");
+        Map<String, Set<String>> called = new TreeMap<>();
+        for (int i = 0; i < lines.length; i++) {
+            if (lines[i].matches(HEAD)) {
+                String name = lines[i].replaceAll("\\(.*", "").replaceAll(".*\\s", "");
+                StringBuilder body = new StringBuilder();
+                for (int b = i + 1; b < lastLine(lines, i); b++) {
+                    body.append(lines[b]).append('\n');
+                }
+                called.computeIfAbsent(name, n -> new TreeSet<>()).addAll(all(body.toString(), "\\b(\\w+)\\("));
+            }
+        }
+        due.is("methods were found", called.size() > 60 ? 1 : 0, 1);
+        for (String name : called.keySet()) {
+            int depth = depth(called, name, 1);
+            due.is("calls of " + name + " go " + depth + " deep", depth <= 8 ? 1 : 0, 1);
+        }
+    }
+
+    private static int depth(Map<String, Set<String>> called, String name, int above) {
+        int deepest = above;
+        // Far deeper than what is allowed: then methods call one another in a ring.
+        if (above < 40) {
+            for (String next : called.get(name)) {
+                if (called.containsKey(next)) {
+                    deepest = Math.max(deepest, depth(called, next, above + 1));
+                }
+            }
+        }
+        return deepest;
     }
 }
